@@ -491,12 +491,12 @@ public final class KeyboardKit {
                 pc = pc + 1 & 65535;
                 execute(instruction);
             }
-            passTicks();
+            passTicks(ticks);
             return ticks;
         }
 
-        private void passTicks() {
-            for (int i = 0; i < ticks; i++) {
+        private void passTicks(int n) {
+            for (int i = 0; i < n; i++) {
                 if (timer.tick()) {
                     interrupts.timerEnded = true;
                 }

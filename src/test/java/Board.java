@@ -28,6 +28,10 @@ final class Board {
     static final int OFF = 0xF3;
     static final int ON = 0xFB;
 
+    // From NOTHING on 200 bytes stay 0: waiting executes them. At SCRATCH the ports' programs lie.
+    private static final int NOTHING = 700;
+    private static final int SCRATCH = 900;
+
     final KeyboardKit kit = new KeyboardKit();
 
     /** A new board with a program at 0 and the stack below 512. */
@@ -62,25 +66,20 @@ final class Board {
         return kit.about(first) * 256 + kit.about(first + 1);
     }
 
-    /** Writes a byte to a port, by a program that is put where PC is: 17 ticks. */
+    /** Writes a byte to a port, by a program of its own: 17 ticks. */
     Board out(int port, int v) {
-        at(is(PC), LOAD_A, v, OUT, port);
-        return after(2);
+        at(SCRATCH, LOAD_A, v, OUT, port);
+        return having(PC, SCRATCH).after(2);
     }
 
-    /** Reads a port, by a program that is put where PC is: 10 ticks. */
+    /** Reads a port, by a program of its own: 10 ticks. */
     int in(int port) {
-        at(is(PC), IN, port);
-        after(1);
-        return is(A);
+        at(SCRATCH, IN, port);
+        return having(PC, SCRATCH).after(1).is(A);
     }
 
-    /** Lets ticks go by with instructions that do nothing; ticks are a multiple of 4. */
+    /** Lets ticks go by (a multiple of 4, up to 800) with instructions that do nothing. */
     Board wait(int ticks) {
-        for (int i = 0; i < ticks / 4; i++) {
-            kit.poke(is(PC), NOP);
-            kit.step();
-        }
-        return this;
+        return having(PC, NOTHING).after(ticks / 4);
     }
 }

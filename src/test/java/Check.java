@@ -1,3 +1,5 @@
+import java.util.List;
+
 /** Compares answers with those that are due, and ends a test. */
 final class Check {
     private static int compared = 0;
@@ -33,6 +35,16 @@ final class Check {
 
     static void refusesIndex(String what, Runnable call) {
         refuses(what, IndexOutOfBoundsException.class, call);
+    }
+
+    /** Compares rows of answers, and tells the first place where they are not the same. */
+    static void same(String what, List<Integer> got, List<Integer> due) {
+        equal("number of answers: " + what, got.size(), due.size());
+        int i = 0;
+        while (i < due.size() && i < got.size() && got.get(i).equals(due.get(i))) {
+            i++;
+        }
+        equal("first other answer: " + what, i, due.size());
     }
 
     static void end() {

@@ -904,17 +904,17 @@ public final class KeyboardKit {
             return memory[address & ADDRESS_BITS];
         }
 
-        private int readWord(int address) {
-            int low = read(address);
-            return read(address + 1) << 8 | low;
-        }
-
         private void write(int address, int v) {
             ticks += BYTE_TICKS;
             memory[address & ADDRESS_BITS] = v & 255;
         }
 
-        // Stores by itself: through write, a call's push would lie nine calls deep.
+        // Words go to memory by themselves: through read and write, PUSH and POP would lie nine calls deep.
+        private int readWord(int address) {
+            ticks += 2 * BYTE_TICKS;
+            return memory[address + 1 & ADDRESS_BITS] << 8 | memory[address & ADDRESS_BITS];
+        }
+
         private void writeWord(int address, int word) {
             ticks += 2 * BYTE_TICKS;
             memory[address & ADDRESS_BITS] = word & 255;

@@ -1,7 +1,7 @@
 /** Promise 10: set. */
 final class SetTest {
-    private static final int[] VALUES = {0, 1, 8, 127, 128, 255, 256, 300, 65535, 65536, 70000, -1, -256, -65537,
-        Integer.MIN_VALUE, Integer.MAX_VALUE};
+    private static final int[] VALUES = {0, 1, 7, 8, 9, 127, 128, 247, 248, 254, 255, 256, 257, 264, 300, 65534,
+        65535, 65536, 65537, 70000, -1, -8, -255, -256, -257, -65535, -65536, -65537, Integer.MIN_VALUE, Integer.MAX_VALUE};
 
     public static void main(String[] args) {
         for (int v : VALUES) {

@@ -15,7 +15,8 @@ final class BoundariesTest {
 
     public static void main(String[] args) throws IOException {
         Set<String> named = new TreeSet<>();
-        Matcher matcher = Pattern.compile("`(\\w+Test)\\.(\\w+)`").matcher(Files.readString(Path.of("src/test/BOUNDARIES.md")));
+        String list = Files.readString(Path.of("src/test/BOUNDARIES.md"));
+        Matcher matcher = Pattern.compile("`(\\w+Test)\\.(\\w+)`").matcher(list);
         while (matcher.find()) {
             named.add(matcher.group(1) + "." + matcher.group(2));
             Check.equal("there is " + matcher.group(), exists(matcher.group(1), matcher.group(2)), true);
@@ -32,7 +33,8 @@ final class BoundariesTest {
     /** Tests take nothing, or one address; helpers take or answer more. */
     private static boolean isTest(Method method) {
         boolean byAddress = Arrays.equals(method.getParameterTypes(), new Class<?>[] {int.class});
-        return method.getReturnType() == void.class && !method.isSynthetic() && (method.getParameterCount() == 0 || byAddress);
+        boolean answersNothing = method.getReturnType() == void.class && !method.isSynthetic();
+        return answersNothing && (method.getParameterCount() == 0 || byAddress);
     }
 
     private static boolean exists(String type, String name) {

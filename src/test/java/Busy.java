@@ -54,7 +54,8 @@ final class Busy {
 
     private static Board endingWith(int last) {
         int end = MAIN + PROGRAM.length;
-        Board board = Board.with().at(MAIN, PROGRAM).at(end, last, Board.NOP).at(end + 2, Board.JUMP, PROBE % 256, PROBE / 256);
+        Board board = Board.with().at(MAIN, PROGRAM).at(end, last, Board.NOP);
+        board.at(end + 2, Board.JUMP, PROBE % 256, PROBE / 256);
         board.at(60, Board.JUMP, PROBE % 256, PROBE / 256);
         board.at(PROBE, Board.READ_MASK, PUSH, Board.IN, 0, PUSH, Board.IN, 0, PUSH);
         for (int i = 0; i < 9; i++) {

@@ -1,7 +1,8 @@
 /** Terms: addresses of which the low ten bits count, and PC, SP and pairs that go round. */
 final class RoundTest {
     // Just below, at and just above each place where an address goes round.
-    private static final int[] ADDRESSES = {0, 1, 1022, 1023, 1024, 1025, 2047, 2048, 32767, 32768, 64511, 64512, 65534, 65535};
+    private static final int[] ADDRESSES = {0, 1, 1022, 1023, 1024, 1025, 2047, 2048, 32767, 32768, 64511,
+        64512, 65534, 65535};
     private static final int[] FLAG_BYTES = {0, 247};
 
     public static void main(String[] args) {
@@ -53,7 +54,8 @@ final class RoundTest {
     }
 
     private static void bytesByFarCalls() {
-        int[] addresses = {-1, -1024, -1025, 65536, 65537, 66559, Integer.MIN_VALUE, Integer.MIN_VALUE + 1, Integer.MAX_VALUE};
+        int[] addresses = {-1, -1024, -1025, 65536, 65537, 66559, Integer.MIN_VALUE, Integer.MIN_VALUE + 1,
+            Integer.MAX_VALUE};
         for (int address : addresses) {
             Board board = new Board();
             int place = Math.floorMod(address, 1024);

@@ -55,7 +55,8 @@ final class ServeTest {
 
     private static void onWhenAlreadyOn() {
         goes("ON twice", withLine(Board.ON, Board.ON, Board.NOP, Board.NOP), 201, 202, 203, 52);
-        goes("ON five times", withLine(Board.ON, Board.ON, Board.ON, Board.ON, Board.ON, Board.NOP), 201, 202, 203, 204, 205, 206, 52);
+        Board five = withLine(Board.ON, Board.ON, Board.ON, Board.ON, Board.ON, Board.NOP);
+        goes("ON five times", five, 201, 202, 203, 204, 205, 206, 52);
         Board board = open(Board.ON, Board.NOP, Board.ON, Board.NOP, Board.NOP).after(3);
         board.kit.line(0, true);
         goes("ON when ON for long", board, 204, 52);
@@ -162,7 +163,8 @@ final class ServeTest {
         two.kit.key(7, true);
         two.wait(128).having(Board.PC, 200);
         goes("one of two keys is left", two, 201, 203, 44);
-        Board timer = open(Board.LOAD_A, START, Board.OUT, 0, Board.LOAD_A, 8 + 16, Board.ON, Board.SET_MASK, Board.NOP, Board.NOP);
+        Board timer = open(Board.LOAD_A, START, Board.OUT, 0, Board.LOAD_A, 8 + 16, Board.ON, Board.SET_MASK, Board.NOP,
+            Board.NOP);
         goes("SET MASK took 7.5 back", timer.after(4), 208, 209, 210);
     }
 

@@ -32,8 +32,10 @@ final class SumEdgeTest {
     /** One operation on a register and on n, with all flags but C as they must not stay. */
     private static void operation(int y, int a, int b, int c, int dueA, int dueFlags) {
         for (int others : new int[] {0, 246}) {
-            Board byRegister = Board.with(128 + 8 * y).having(Board.B, b).having(Board.A, a).having(Board.FLAGS, others + c).after(1);
-            Board byByte = Board.with(192 + 8 * y + 6, b).having(Board.A, a).having(Board.FLAGS, others + c).after(1);
+            Board byRegister = Board.with(128 + 8 * y).having(Board.B, b);
+            byRegister.having(Board.A, a).having(Board.FLAGS, others + c).after(1);
+            Board byByte = Board.with(192 + 8 * y + 6, b);
+            byByte.having(Board.A, a).having(Board.FLAGS, others + c).after(1);
             String what = "operation " + y + " of " + a + " and " + b + ", C " + c;
             Check.equal(what, byRegister.is(Board.A), dueA);
             Check.equal("flags of " + what, byRegister.is(Board.FLAGS), dueFlags);
